@@ -1,0 +1,64 @@
+import java.nio.charset.StandardCharsets;
+
+/** Compares answers with what is due, and feeds texts. */
+final class Check {
+    private int wrong;
+    private int done;
+
+    void due(String call, long got, long want) {
+        done++;
+        if (got != want) {
+            wrong++;
+            System.out.println(call + " answered " + got + ", due is " + want);
+        }
+    }
+
+    /** Ends the program. */
+    void end() {
+        System.out.println(done + " answers, " + wrong + " not as due");
+        System.exit(wrong == 0 ? 0 : 1);
+    }
+
+    static void feed(TurnedStatues x, String text) {
+        byte[] bytes = text.getBytes(StandardCharsets.ISO_8859_1);
+        int[] ints = new int[5];
+        for (int i = 0; i < bytes.length; i += 20) {
+            for (int j = 0; j < 5; j++) {
+                ints[j] = 0;
+                for (int b = i + 4 * j; b < i + 4 * j + 4; b++) {
+                    ints[j] = ints[j] << 8 | (b < bytes.length ? bytes[b] & 255 : ' ');
+                }
+            }
+            x.feed(ints[0], ints[1], ints[2], ints[3], ints[4]);
+        }
+    }
+
+    static int tell(TurnedStatues x, String text) {
+        feed(x, text);
+        return x.square(text.length());
+    }
+
+    static TurnedStatues told(String text) {
+        TurnedStatues x = new TurnedStatues();
+        int lines = tell(x, text);
+        if (lines < 0) {
+            throw new IllegalArgumentException(text + ": " + lines + " at " + x.fault(1));
+        }
+        return x;
+    }
+
+    static void tray(TurnedStatues x, int tray, int sort, long... numbers) {
+        x.numbers(tray, sort, numbers.length);
+        for (int i = 0; i < numbers.length; i++) {
+            x.write(tray, i, numbers[i]);
+        }
+    }
+
+    static long bits(int... all) {
+        long bits = 0;
+        for (int k : all) {
+            bits |= 1L << k;
+        }
+        return bits;
+    }
+}
