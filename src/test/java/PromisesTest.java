@@ -462,6 +462,15 @@ public final class PromisesTest {
         due("a ring told ahead of it", x.rings(), 12);
         x.nights(2);
         due("pair() of 2, 3", x.pair(), 23);
+        StringBuilder eight = new StringBuilder("stones 8 8;statue 0 0 looks 0;");
+        for (int s = 1; s < 8; s++) {
+            eight.append("statue ").append(s).append(" 0 looks 0 at ").append(s - 1).append(';');
+        }
+        x = Check.told(eight + "letter 1 from 0 to 7;");
+        due("no ring of eight yet", x.rings(), 0);
+        x.nights(1);
+        due("rings() of eight", x.rings(), 255);
+        due("ringOf(3) of eight", x.ringOf(3), 8);
     }
 
     private static void waysAcross() {

@@ -36,6 +36,8 @@ public final class TextTest {
         faulty(1, "rest: 1|.5 = 1;");
         faulty(1, "rest: 1 = |5000;");
         faulty(2, "|stonesx 2 2;");
+        faulty(2, "|stonesz 2 2;");
+        faulty(2, "|zoo 2 2;");
         faulty(2, "|5;");
         faulty(2, "stones 2 2|x;");
         faulty(2, "stones 2 2|-;");
@@ -171,6 +173,27 @@ public final class TextTest {
         fine(3, "rest:1=1;rest:[night+week*me-dir<off and x>y] or not foes=0;rest:1=2;");
     }
 
+    /** A text leaves nothing behind for the next one of the same object. */
+    private static void oneBehindAnother() {
+        TurnedStatues x = new TurnedStatues();
+        String[] unended = {"rest : [[[[[[;", "rest : 1 = 1 + ((((((;", "rest : not not not 1 = 1 = ;", "rest : 1 = 1 and not 2 * ;",
+            "rest : 1 = 1", "stones 8 8;wall 1 1;statue 0 0 looks 3;letter 0 from 0 to 0;", "snow 1 for 1;snow 0 for 5;snow;"};
+        for (String text : unended) {
+            CHECK.due(text, Check.tell(x, text) < -30 ? 1 : 0, 1);
+            CHECK.due("six behind " + text, Check.tell(x, "stones 2 2;statue 0 0 looks 0;statue 1 0 looks 0 at 0;"
+                    + "statue 1 1 looks 6 at 0;rest : not not not not not not 2 = me;"), 5);
+            CHECK.due("1 turns behind " + text, x.statue(1, 5), 1);
+            CHECK.due("2 rests behind " + text, x.statue(2, 5), 0);
+            CHECK.due("2 is off behind " + text, x.statue(2, 3), 1);
+            CHECK.due("no snow behind " + text, x.count(5), 0);
+            CHECK.due("no blocks behind " + text, x.count(11), 0);
+            CHECK.due("sums behind " + text, Check.tell(x, "rest : 1 = ((((((1))))));"), 1);
+            CHECK.due("no WIDE behind " + text, x.count(0), 0);
+            CHECK.due("no HIGH behind " + text, x.count(1), 0);
+            CHECK.due("no STONE behind " + text, x.stone(0), -2);
+        }
+    }
+
     /** Whether STATUE 1 rests by a law: me 1, dir 2, off 2, x 2, y 5, foes 2, on NIGHT 0. */
     private static void law(String law, boolean holds) {
         TurnedStatues x = Check.told("stones 4 6;statue 1 1 looks 0;statue 2 5 looks 2 at 0;statue 0 5 looks 0 at 1;"
@@ -229,6 +252,7 @@ public final class TextTest {
         letters();
         snows();
         laws();
+        oneBehindAnother();
         truths();
         CHECK.end();
     }
