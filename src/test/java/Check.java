@@ -13,6 +13,27 @@ final class Check {
         }
     }
 
+    /** Tells a text to a new object; a | in it marks the place of its FAULT. */
+    void faulty(int kind, String marked) {
+        int place = marked.indexOf('|');
+        String text = marked.substring(0, place) + marked.substring(place + 1);
+        TurnedStatues x = new TurnedStatues();
+        due(marked, tell(x, text), -30 - kind);
+        due(marked + " fault(0)", x.fault(0), kind);
+        due(marked + " fault(1)", x.fault(1), place);
+        due(marked + " keeps STONES", x.count(0), 0);
+        due(marked + " keeps LINES", x.count(10), 0);
+        due(marked + " empties the tape", x.count(9), 0);
+    }
+
+    void fine(int lines, String text) {
+        TurnedStatues x = new TurnedStatues();
+        due(text, tell(x, text), lines);
+        due(text + " fault(0)", x.fault(0), 0);
+        due(text + " fault(1)", x.fault(1), -1);
+        due(text + " LINES", x.count(10), lines);
+    }
+
     /** Ends the program. */
     void end() {
         System.out.println(done + " answers, " + wrong + " not as due");

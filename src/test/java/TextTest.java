@@ -4,22 +4,11 @@ public final class TextTest {
     private static final String SMALL = "stones 2 2;statue 0 0 looks 0;statue 1 1 looks 7 at 0;";
 
     private static void faulty(int kind, String marked) {
-        int place = marked.indexOf('|');
-        String text = marked.substring(0, place) + marked.substring(place + 1);
-        TurnedStatues x = new TurnedStatues();
-        CHECK.due(marked, Check.tell(x, text), -30 - kind);
-        CHECK.due(marked + " fault(0)", x.fault(0), kind);
-        CHECK.due(marked + " fault(1)", x.fault(1), place);
-        CHECK.due(marked + " keeps STONES", x.count(0), 0);
-        CHECK.due(marked + " keeps LINES", x.count(10), 0);
-        CHECK.due(marked + " empties the tape", x.count(9), 0);
+        CHECK.faulty(kind, marked);
     }
 
     private static void fine(int lines, String text) {
-        TurnedStatues x = new TurnedStatues();
-        CHECK.due(text, Check.tell(x, text), lines);
-        CHECK.due(text + " fault(0)", x.fault(0), 0);
-        CHECK.due(text + " fault(1)", x.fault(1), -1);
+        CHECK.fine(lines, text);
     }
 
     private static void tokens() {
