@@ -2,6 +2,10 @@ import java.nio.charset.StandardCharsets;
 
 /** Compares answers with what is due, and feeds texts. */
 final class Check {
+    /** Eight on the STONES around 27 (3 3), from north with the clock, all looking at it; each hates the one ahead, 0 hates 1. */
+    static final String AROUND = "stones 8 8;statue 3 2 looks 4;statue 4 2 looks 5 at 0;statue 4 3 looks 6 at 1;"
+            + "statue 4 4 looks 7 at 2;statue 3 4 looks 0 at 3;statue 2 4 looks 1 at 4;statue 2 3 looks 2 at 5;statue 2 2 looks 3 at 6;"
+            + "letter 0 from 0 to 1;";
     private int wrong;
     private int done;
 
@@ -11,6 +15,21 @@ final class Check {
             wrong++;
             System.out.println(call + " answered " + got + ", due is " + want);
         }
+    }
+
+    void same(String what, int[] got, int[] want) {
+        due(what + ", how many", got.length, want.length);
+        for (int i = 0; i < want.length; i++) {
+            due(what + " " + i, got[i], want[i]);
+        }
+    }
+
+    /** NIGHTS go by up to this one. */
+    void pass(TurnedStatues x, int night) {
+        for (int i = x.count(4); i < night; i += 99) {
+            x.nights(Math.min(99, night - i));
+        }
+        due("NIGHT", x.count(4), night);
     }
 
     /** Tells a text to a new object; a | in it marks the place of its FAULT. */

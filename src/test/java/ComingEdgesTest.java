@@ -11,13 +11,6 @@ public final class ComingEdgesTest {
         CHECK.due(call, got, want);
     }
 
-    private static void pass(TurnedStatues x, int night) {
-        for (int i = x.count(4); i < night; i += 99) {
-            x.nights(Math.min(99, night - i));
-        }
-        due("NIGHT", x.count(4), night);
-    }
-
     /** Promise 20: a turn, a letter, a peace on the last NIGHT that is looked at, and beyond; now and later on. */
     private static void still() {
         int[][] turnOn = {{0, 1}, {1, 2}, {2, 3}, {100, 101}, {198, 199}, {199, 200}, {200, -1}, {201, 0}, {202, 0}, {999, 0}};
@@ -32,7 +25,7 @@ public final class ComingEdgesTest {
             // the latest counts
             due("letters on 0 and " + c[0], Check.told(TWO + rest + "letter " + c[0] + " from 1 to 0;peace 0 from 0;").still(), c[1]);
             TurnedStatues x = Check.told(TWO + rest + "letter " + Math.min(999, c[0] + 50) + " from 1 to 0;");
-            pass(x, 50);
+            CHECK.pass(x, 50);
             due("50 NIGHTS later, letter " + c[0], x.still(), c[1]);
             x.down(0);
             x.down(1);
@@ -77,7 +70,7 @@ public final class ComingEdgesTest {
             due("FOE of " + f[0] + " in " + f[1], x.later(f[0], f[1], 1), f[2]);
         }
         x = Check.told(TWO + "letter 250 from 0 to 1;");
-        pass(x, 50);
+        CHECK.pass(x, 50);
         due("FOE in 199 from 50", x.later(0, 199, 1), -1);
         due("FOE in 200 from 50", x.later(0, 200, 1), 1);
         x.down(1);

@@ -12,13 +12,6 @@ public final class DeedsEdgesTest {
         CHECK.due(call, got, want);
     }
 
-    private static void pass(TurnedStatues x, int night) {
-        for (int i = x.count(4); i < night; i += 99) {
-            x.nights(Math.min(99, night - i));
-        }
-        due("NIGHT", x.count(4), night);
-    }
-
     /** Promise 11. */
     private static void nights() {
         int[] refused = {0, 100, -1, Integer.MAX_VALUE, Integer.MIN_VALUE};
@@ -65,11 +58,11 @@ public final class DeedsEdgesTest {
             due("still to come on NIGHT " + night, x.count(7), night < 1 ? 2 : 1);
             x.nights(1);
         }
-        pass(x, 998);
+        CHECK.pass(x, 998);
         due("snow on NIGHT 998", x.count(5), 0);
         due("no FOE yet", x.statue(1, 2), -1);
         due("to come", x.count(7), 1);
-        pass(x, 999);
+        CHECK.pass(x, 999);
         due("snow on NIGHT 999", x.count(5), 1);
         due("the FOE", x.statue(1, 2), 0);
         due("none to come", x.count(7), 0);
@@ -223,7 +216,7 @@ public final class DeedsEdgesTest {
             }
             due("kind " + kind + " counts once", x.count(8), 2);
             due("undo(1) of kind " + kind, x.undo(1), 1);
-            same("undone kind " + kind, state(x), before);
+            CHECK.same("undone kind " + kind, state(x), before);
             due("undo(1) of down", x.undo(1), 0);
             due("3 stands", x.statue(3, 0), 3);
             due("undo(1) of nothing", x.undo(1), -3);
@@ -269,12 +262,6 @@ public final class DeedsEdgesTest {
         all[12] = x.count(4);
         all[13] = x.count(7);
         return all;
-    }
-
-    private static void same(String what, int[] got, int[] want) {
-        for (int i = 0; i < want.length; i++) {
-            due(what + " " + i, got[i], want[i]);
-        }
     }
 
     /** DEEDS in a TRAY: the first and the last number of each kind, and those beside. */

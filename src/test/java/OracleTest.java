@@ -8,12 +8,15 @@ import java.util.Random;
 /** Long runs of drawn calls on drawn squares: the class has to answer each as the Oracle does. */
 public final class OracleTest {
     private static final int RUNS = 400;
-    private static final int CALLS = 300;
+    private static final int STEPS = 300;
+    /** What an object answers behind so many calls is free. */
+    private static final int MOST_CALLS = 512;
     private static int wrong;
     private static Random random;
     private static TurnedStatues real;
     private static Oracle oracle;
     private static List<String> log;
+    private static int calls;
 
     public static void main(String[] args) throws Exception {
         int runs = args.length > 0 ? Integer.parseInt(args[0]) : RUNS;
@@ -31,9 +34,10 @@ public final class OracleTest {
             real = new TurnedStatues();
             oracle = new Oracle();
             log = new ArrayList<>();
+            calls = 0;
             int had = wrong;
             tell(run);
-            for (int i = 0; i < CALLS && wrong == had; i++) {
+            for (int i = 0; i < STEPS && wrong == had; i++) {
                 int what = random.nextInt(80);
                 if (what == 0) {
                     tell(run);
@@ -53,6 +57,10 @@ public final class OracleTest {
     }
 
     private static long call(int run, Method m, Object... args) throws Exception {
+        if (calls >= MOST_CALLS) {
+            return 0;
+        }
+        calls++;
         Method other = Oracle.class.getDeclaredMethod(m.getName(), m.getParameterTypes());
         long got = ((Number) m.invoke(real, args)).longValue();
         long want = ((Number) other.invoke(oracle, args)).longValue();
@@ -98,7 +106,7 @@ public final class OracleTest {
     }
 
     private static void fillTray(int run) throws Exception {
-        int statues = real.count(2);
+        int statues = oracle.count(2);
         boolean seen = random.nextBoolean();
         int tray = random.nextInt(4);
         int n = seen ? statues : random.nextInt(12);
@@ -107,7 +115,7 @@ public final class OracleTest {
         for (int i = 0; i < n; i++) {
             long v;
             if (seen) {
-                v = random.nextInt(3) > 0 ? -1 : random.nextInt(40) == 0 ? 8 : real.later(i, n2, 0);
+                v = random.nextInt(3) > 0 ? -1 : random.nextInt(40) == 0 ? 8 : oracle.later(i, n2, 0);
             } else {
                 v = deed();
             }
@@ -116,10 +124,10 @@ public final class OracleTest {
     }
 
     private static long deed() {
-        int s = random.nextInt(random.nextInt(10) == 0 ? 10 : Math.max(1, real.count(2)));
+        int s = random.nextInt(random.nextInt(10) == 0 ? 10 : Math.max(1, oracle.count(2)));
         switch (random.nextInt(6)) {
             case 0:
-                return 10 * s + random.nextInt(random.nextInt(10) == 0 ? 10 : Math.max(1, real.count(2)));
+                return 10 * s + random.nextInt(random.nextInt(10) == 0 ? 10 : Math.max(1, oracle.count(2)));
             case 1:
                 return 100 + s;
             case 2:
@@ -136,8 +144,8 @@ public final class OracleTest {
     private static Object[] arguments(Method m) {
         Object[] args = new Object[m.getParameterCount()];
         String name = m.getName();
-        int statues = Math.max(1, real.count(2));
-        int stones = Math.max(1, real.count(0) * real.count(1));
+        int statues = Math.max(1, oracle.count(2));
+        int stones = Math.max(1, oracle.count(0) * oracle.count(1));
         for (int i = 0; i < args.length; i++) {
             if (m.getParameterTypes()[i] == long.class) {
                 args[i] = random.nextInt(3) == 0 ? random.nextLong() : random.nextInt(12) - 3L;
@@ -177,7 +185,7 @@ public final class OracleTest {
 
     /** Rather one UNDER a LOOK than another. */
     private static int stone(int stones) {
-        long under = real.under();
+        long under = oracle.under();
         int k = random.nextInt(stones);
         for (int i = 0; i < 8 && (under >>> k & 1) == 0; i++) {
             k = random.nextInt(stones);

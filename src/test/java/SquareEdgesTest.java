@@ -1,10 +1,6 @@
 /** Promises 1 to 10 and the terms they use, at their edges: nothing told, all told, the first and the last STONE and STATUE. */
 public final class SquareEdgesTest {
     private static final Check CHECK = new Check();
-    /** Eight on the STONES around 27 (3 3), from north with the clock, all looking at it. */
-    private static final String AROUND = "stones 8 8;statue 3 2 looks 4;statue 4 2 looks 5 at 0;statue 4 3 looks 6 at 1;"
-            + "statue 4 4 looks 7 at 2;statue 3 4 looks 0 at 3;statue 2 4 looks 1 at 4;statue 2 3 looks 2 at 5;statue 2 2 looks 3 at 6;"
-            + "letter 0 from 0 to 1;";
 
     private static void due(String call, long got, long want) {
         CHECK.due(call, got, want);
@@ -466,7 +462,7 @@ public final class SquareEdgesTest {
         x = Check.told("stones 8 8;statue 7 7 looks 0;statue 0 7 looks 0 at 0;letter 0 from 0 to 1;");
         due("look up from 63", x.look(0), Check.bits(55, 47, 39, 31, 23, 15, 7));
         // eight around STONE 27 look at it: the first has the second as FOE, each other one the one ahead
-        x = Check.told(AROUND);
+        x = Check.told(Check.AROUND);
         due("watchers of eight", x.watchers(27), 255);
         for (int s = 0; s < 8; s++) {
             due("look past 27 of " + s, x.look(s), 1L << 27);

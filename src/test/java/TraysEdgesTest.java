@@ -182,12 +182,6 @@ public final class TraysEdgesTest {
         return all;
     }
 
-    private static void same(String what, int[] got, int[] want) {
-        for (int i = 0; i < want.length; i++) {
-            due(what + " " + i, got[i], want[i]);
-        }
-    }
-
     /** Eight STATUES, ten letters and peaces, four snows, a wall, a fountain, a law. */
     private static String full() {
         StringBuilder b = new StringBuilder("stones 8 8;");
@@ -224,10 +218,10 @@ public final class TraysEdgesTest {
             due("told anew", Check.tell(x, other), other.isEmpty() ? 0 : 1);
             due("image(1)", x.image(1), 0);
             due("restore(0)", x.restore(0), 0);
-            same("as it was", all(x), want);
+            CHECK.same("as it was", all(x), want);
             due("nothing to undo", x.undo(1), -3);
             due("restore(1)", x.restore(1), 0);
-            same("as the other was", all(x), all(Check.told(other)));
+            CHECK.same("as the other was", all(x), all(Check.told(other)));
             due("nothing to undo there", x.count(8), 0);
         }
     }
@@ -241,7 +235,7 @@ public final class TraysEdgesTest {
         x.restore(1);
         TurnedStatues y = Check.told(full());
         for (int night = 0; night < 11; night++) {
-            same("NIGHT " + night, changing(x), changing(y));
+            CHECK.same("NIGHT " + night, changing(x), changing(y));
             due("turned on NIGHT " + night, x.nights(1), y.nights(1));
         }
         due("snow 1, 2, 5, 6; a letter on 4", x.statue(0, 2), 7);

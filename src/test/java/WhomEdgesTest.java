@@ -45,9 +45,7 @@ public final class WhomEdgesTest {
 
     /** Promise 32, 33, 34, where eight look at STONE 27, each the FOE of the next one, and 0 hates 1. */
     private static void eightAround() {
-        String around = "stones 8 8;statue 3 2 looks 4;statue 4 2 looks 5 at 0;statue 4 3 looks 6 at 1;statue 4 4 looks 7 at 2;"
-                + "statue 3 4 looks 0 at 3;statue 2 4 looks 1 at 4;statue 2 3 looks 2 at 5;statue 2 2 looks 3 at 6;letter 0 from 0 to 1;";
-        TurnedStatues x = Check.told(around);
+        TurnedStatues x = Check.told(Check.AROUND);
         // of each two in line one has to go; the least set is 0, 2, 4, 6
         due("takeDown: how many", x.takeDown(27, 0), 4);
         due("takeDown: which", x.takeDown(27, 1), 85);
@@ -61,7 +59,7 @@ public final class WhomEdgesTest {
         due("takeDown without 0: which", x.takeDown(27, 1), 4 + 16 + 64);
         due("reconcile without 0", x.reconcile(27, 1), 255 - 1 - 2);
         due("reconcile without 0: how many", x.reconcile(27, 0), 6);
-        x = Check.told(around.replace("looks 3 at 6", "looks 3 at 0"));
+        x = Check.told(Check.AROUND.replace("looks 3 at 6", "looks 3 at 0"));
         // now 7 hates 0: 7 0 1 2 3 4 5 6 in line
         due("takeDown: how many of another line", x.takeDown(27, 0), 4);
         due("takeDown: which of another line", x.takeDown(27, 1), 1 + 2 + 8 + 32);
