@@ -436,6 +436,18 @@ public final class TextEdgesTest {
         law("0 - 0 = 000", true);
     }
 
+    /** Six within one another, each with an or, and, +, * that waits for it: the innermost is 8, then 18, 37, 112. */
+    private static void deepest() {
+        String open = "1 = 2 or 1 = 1 and [1 = 2 or 1 = 1 and [1 = 2 or 1 = 1 and [1 = 2 or 1 = 1 and ";
+        String sum = " = 1 + 3 * (1 + 2 * (2 + 2 * (3 + 1 * 5)))]]]";
+        law(open + "112" + sum, true);
+        law(open + "111" + sum, false);
+        law(open + "113" + sum, false);
+        law("not not not 112" + sum.substring(0, sum.length() - 3), false);
+        law("not not not 111" + sum.substring(0, sum.length() - 3), true);
+        law("112 - ((((((112)))))) = 0 and not not not not not not 1 = 1", true);
+    }
+
     private static void asked() {
         law("night = 0 and week = 0", true);
         law("me = 1 and dir = 6 and off = 2 and x = 7 and y = 1 and foes = 6", true);
@@ -519,6 +531,7 @@ public final class TextEdgesTest {
         nesting();
         laterLaws();
         kept();
+        deepest();
         asked();
         nightsAndWeeks();
         leastAndMost();
