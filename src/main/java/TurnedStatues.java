@@ -77,8 +77,7 @@ public final class TurnedStatues {
     private final Square[] imageSquares = new Square[IMAGES];
     private final Stand[] imageStands = new Stand[IMAGES];
     private final boolean[] imageMade = new boolean[IMAGES];
-    private final byte[] tape = new byte[TAPE_BYTES];
-    private final Reader reader = new Reader(tape);
+    private final Reader reader = new Reader();
     private int taped;
     private int latestFault;
     private int latestPlace = NONE;
@@ -96,7 +95,7 @@ public final class TurnedStatues {
     // ---- the square
 
     public int feed(int a, int b, int c, int d, int e) {
-        if (taped < 0 || taped + FED_BYTES > tape.length) {
+        if (taped < 0 || taped + FED_BYTES > TAPE_BYTES) {
             return NOT_NOW;
         }
         tapeInt(a);
@@ -108,6 +107,7 @@ public final class TurnedStatues {
     }
 
     private void tapeInt(int four) {
+        byte[] tape = reader.tokens.tape;
         for (int shift = 24; shift >= 0; shift -= 8) {
             if (taped >= 0 && taped < tape.length) {
                 tape[taped] = (byte) (four >>> shift);
@@ -1502,9 +1502,9 @@ public final class TurnedStatues {
         }
     }
 
-    /** A text's TOKENS, one at a time, and the first FAULT along it. */
+    /** THE TAPE; the TOKENS of the text that it begins with, one at a time, and the first FAULT along it. */
     private static final class Tokens {
-        final byte[] text;
+        final byte[] tape = new byte[TAPE_BYTES];
         int length;
         int at;
         int start;
@@ -1513,12 +1513,8 @@ public final class TurnedStatues {
         int fault;
         int place;
 
-        Tokens(byte[] tape) {
-            text = tape;
-        }
-
         void begin(int n) {
-            length = n < text.length ? n : text.length;
+            length = n < tape.length ? n : tape.length;
             at = 0;
             fault = 0;
             place = NONE;
@@ -1526,7 +1522,7 @@ public final class TurnedStatues {
         }
 
         private int byteAt(int i) {
-            return i >= 0 && i < length && i < text.length ? text[i] : NONE;
+            return i >= 0 && i < length && i < tape.length ? tape[i] : NONE;
         }
 
         void advance() {
@@ -1609,18 +1605,13 @@ public final class TurnedStatues {
 
     /** Reads a text's LINES into a square and a stand of its own. */
     private static final class Reader {
-        final Tokens tokens;
-        final LawReader lawReader;
+        final Tokens tokens = new Tokens();
+        final LawReader lawReader = new LawReader();
         final Square square = new Square();
         final Stand stand = new Stand();
         /** The latest N and the latest STONE that were read. */
         int number;
         int spot;
-
-        Reader(byte[] tape) {
-            tokens = new Tokens(tape);
-            lawReader = new LawReader(tokens);
-        }
 
         int faultPlace() {
             return tokens.place;
@@ -1670,7 +1661,7 @@ public final class TurnedStatues {
 
         private boolean readRest() {
             tokens.advance();
-            return tokens.expect(':') && lawReader.readLaw(square.law);
+            return tokens.expect(':') && lawReader.readLaw(tokens, square.law);
         }
 
         private boolean readNumber(int least, int most) {
@@ -1813,7 +1804,6 @@ public final class TurnedStatues {
         private static final int BEHIND_TRUTH = 3;
         private static final int REFUSED = -1;
 
-        final Tokens tokens;
         final int[] waiting = new int[64];
         int held;
         int nested;
@@ -1822,12 +1812,8 @@ public final class TurnedStatues {
         /** That the UNIT at hand has its = < >. */
         boolean compared;
 
-        LawReader(Tokens read) {
-            tokens = read;
-        }
-
         /** Reads up to the ; behind it. */
-        boolean readLaw(Law law) {
+        boolean readLaw(Tokens tokens, Law law) {
             law.clear();
             held = 0;
             nested = 0;
@@ -1837,12 +1823,12 @@ public final class TurnedStatues {
             int state = UNIT_DUE;
             for (int i = 0; i < TAPE_BYTES; i++) {
                 if (state == UNIT_DUE || state == ATOM_DUE) {
-                    state = readOperand(law, state);
+                    state = readOperand(tokens, law, state);
                 } else if (tokens.token == ';' && openTruths == 0 && isWhole(state)) {
                     release(law, 1);
                     return true;
                 } else {
-                    state = readBehind(law, state);
+                    state = readBehind(tokens, law, state);
                 }
                 if (state == REFUSED) {
                     return false;
@@ -1857,7 +1843,7 @@ public final class TurnedStatues {
             return state == BEHIND_TRUTH || state == BEHIND_ATOM && compared && openSums == 0;
         }
 
-        private int readOperand(Law law, int state) {
+        private int readOperand(Tokens tokens, Law law, int state) {
             int token = tokens.token;
             if (token == NUMBER) {
                 law.add(tokens.value);
@@ -1883,7 +1869,7 @@ public final class TurnedStatues {
             return token == '(' ? ATOM_DUE : UNIT_DUE;
         }
 
-        private int readBehind(Law law, int state) {
+        private int readBehind(Tokens tokens, Law law, int state) {
             int token = tokens.token;
             if (state == BEHIND_ATOM) {
                 if (token == '+' || token == '-' || token == '*') {

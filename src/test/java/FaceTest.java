@@ -69,7 +69,7 @@ public final class FaceTest {
         String code = all.replaceAll("(?s)/\\*.*?\\*/", "").replaceAll("//[^\n]*", "").replaceAll("\"[^\"]*\"", "TEXT");
         String[] never = {"\\b(throw|throws|try|catch|synchronized|assert|import|package|instanceof|yield|var)\\b", "->", "::",
             "\\b(System\\.(?!arraycopy)|Thread|Exact\\()", "TEXT\\s*\\+", "\\+\\s*TEXT", "\\.(equals|hashCode|toString)\\(",
-            "\\bstatic (?!final|int |long |boolean |void )", "\\bprotected\\b", "\\bwhile\\b"};
+            "new [A-Z]\\w*\\([^)]", "\\bstatic (?!final|int |long |boolean |void )", "\\bprotected\\b", "\\bwhile\\b"};
         for (String pattern : never) {
             Matcher m = Pattern.compile(pattern).matcher(code);
             CHECK.due(pattern + (m.find() ? " is in the source: " + m.group() : ""), m.reset().find() ? 1 : 0, 0);
